@@ -48,10 +48,6 @@ public final class RewindBox {
         this.inputs = new Inputs();
         this.entries = new Log();
         this.snapshots = new Snapshots();
-        this.recording = false;
-        this.ringCame = false;
-        this.now = 0;
-        this.end = 0;
     }
 
     public boolean poke(int place, int v) {
@@ -339,11 +335,6 @@ public final class RewindBox {
             registers = new int[REGISTERS];
             memory = new int[WORDS];
             keptOuts = new int[KEPT_OUTS];
-            pc = 0;
-            back = 0;
-            open = false;
-            outCount = 0;
-            written = 0;
         }
 
         void reset() {
@@ -499,8 +490,6 @@ public final class RewindBox {
 
         Inputs() {
             values = new int[MOST_WAITING];
-            first = 0;
-            count = 0;
         }
 
         void clear() {
@@ -535,7 +524,6 @@ public final class RewindBox {
             positions = new int[MOST_ENTRIES];
             kinds = new int[MOST_ENTRIES];
             values = new int[MOST_ENTRIES];
-            count = 0;
         }
 
         void add(int position, int kind, int value) {
@@ -570,12 +558,6 @@ public final class RewindBox {
 
         Snapshot() {
             registers = new int[REGISTERS];
-            pc = 0;
-            back = 0;
-            open = false;
-            outCount = 0;
-            written = 0;
-            firstPage = 0;
         }
 
         int pageCount() {
@@ -621,8 +603,6 @@ public final class RewindBox {
             for (int k = 0; k < MOST_SNAPSHOTS; k++) {
                 row[k] = new Snapshot();
             }
-            count = 0;
-            pages = 0;
         }
 
         void begin(Machine machine) {

@@ -105,6 +105,19 @@ public final class InstructionsTest {
         RewindBox back = after(2, Asm.NOTHING, Asm.BACK);
         CHECK.due("BACK is 0 at first", back.register(8), 0);
         CHECK.due("and it is open", back.register(10), 1);
+        for (int op = 1; op <= 18; op++) {
+            if (op < 15 || op == 18) {
+                CHECK.due("op " + op + " does not open", openAfter(Asm.NOTHING, op), 0);
+                CHECK.due("op " + op + " does not close", openAfter(Asm.OPEN, op), 1);
+            }
+        }
+    }
+
+    private static int openAfter(int first, int op) {
+        RewindBox box = Asm.started(64, first, Asm.word(op, 1, 1, 100));
+        box.give(3);
+        CHECK.due("steps", box.step(2), 2);
+        return box.register(10);
     }
 
     private static void othersDoNothing() {

@@ -11,6 +11,7 @@ public final class P01NewObjectTest {
         for (int i = 0; i < GIVEN.length; i++) {
             interval(check, GIVEN[i], NEAREST[i]);
         }
+        allWordsAreZero(check, new RewindBox(16));
         nothingThere(check, new RewindBox(16));
         check.end();
     }
@@ -25,10 +26,13 @@ public final class P01NewObjectTest {
         }
     }
 
-    private static void nothingThere(Check check, RewindBox box) {
+    private static void allWordsAreZero(Check check, RewindBox box) {
         for (int place = 0; place < 512; place++) {
             check.due("word(" + place + ")", box.word(place), 0);
         }
+    }
+
+    private static void nothingThere(Check check, RewindBox box) {
         for (int i = 0; i <= 10; i++) {
             check.due("register(" + i + ")", box.register(i), 0);
         }

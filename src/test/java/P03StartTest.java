@@ -9,6 +9,7 @@ public final class P03StartTest {
         aFormerOneEnds(check);
         memoryAsItIsNow(check);
         afterAStop(check);
+        nothingIsLeftOpenOrWritten(check);
         check.end();
     }
 
@@ -83,5 +84,23 @@ public final class P03StartTest {
         box.start();
         beginsEmpty(check, box, "after stop: ");
         check.due("poke in it", box.poke(0, 0), false);
+    }
+
+    private static void nothingIsLeftOpenOrWritten(Check check) {
+        RewindBox box = Asm.started(4, Asm.OPEN, Asm.store(0, 0, 100), Asm.NOTHING, Asm.jump(2));
+        box.step(3);
+        check.due("open", box.register(10), 1);
+        box.start();
+        check.due("not open any more", box.register(10), 0);
+        box.stop();
+        box.poke(1, Asm.NOTHING);
+        box.start();
+        box.step(4);
+        check.due("pages(1), none of a former record", box.pages(1), 0);
+        box.step(1);
+        box.start();
+        box.ring();
+        check.due("step(1)", box.step(1), 1);
+        check.due("a ring waits until it is open", box.record(6), 1);
     }
 }

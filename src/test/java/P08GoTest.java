@@ -23,8 +23,8 @@ public final class P08GoTest {
         check.due("go(1) at the beginning", box.go(1), false);
     }
 
-    /** Writes over itself (place 16 on), reads, is rung, and counts its outs. */
-    private static RewindBox busy(int interval) {
+    /** Reads, writes, is rung, and counts its outs, for steps at most. */
+    private static RewindBox busy(int interval, int steps) {
         RewindBox box = new RewindBox(interval);
         Asm.lay(box, 0, Asm.OPEN, Asm.set(3, 200), Asm.set(4, 13), Asm.jump(16));
         Asm.lay(box, 8, Asm.position(7), Asm.store(7, 3, 100), Asm.BACK);
@@ -34,66 +34,67 @@ public final class P08GoTest {
         for (int i = 0; i < 9; i++) {
             box.give(i * i - 7);
         }
-        box.step(9);
+        int left = steps - box.step(Math.min(9, steps));
         box.ring();
-        box.step(17);
+        left -= box.step(Math.min(17, left));
         box.ring();
-        box.step(100);
+        box.step(left);
         return box;
     }
 
-    private static long look(RewindBox box) {
+    /** Half of the words alone, so that a box is not used for more than 512 calls. */
+    private static long look(RewindBox box, int half) {
         long sum = 17;
         for (int i = 0; i <= 10; i++) {
             sum = sum * 31 + box.register(i);
         }
-        for (int place = 0; place < 512; place++) {
+        for (int place = half * 256; place < half * 256 + 256; place++) {
             sum = sum * 31 + box.word(place);
         }
-        sum = sum * 31 + box.outs();
-        for (int i = 0; i <= box.outs(); i++) {
+        int outs = box.outs();
+        for (int i = 0; i <= outs; i++) {
             sum = sum * 31 + box.out(i);
         }
-        return sum;
+        return sum * 31 + outs;
     }
 
+    /** What a box is live at a position is what another one is that has gone back to it. */
     private static void everyPosition(Check check, int interval) {
-        RewindBox box = busy(interval);
-        int end = box.record(1);
-        check.due("end", end, 4 + 9 * 7 + 2 * 4);
-        long[] due = new long[end + 1];
-        box.go(0);
+        int end = 4 + 9 * 7 + 2 * 4;
+        check.due("end", busy(interval, 1000).record(1), end);
         for (int position = 0; position <= end; position++) {
-            due[position] = look(box);
-            box.step(1);
-        }
-        for (int i = 0; i <= end; i++) {
-            int position = i * 29 % (end + 1);
-            String made = "interval " + interval + ": go(" + position + ")";
-            check.due(made, box.go(position), true);
-            check.due(made + " position", box.record(0), position);
-            check.due(made + " end", box.record(1), end);
-            check.due(made + " machine", look(box), due[position]);
-            check.due(made + " entries", box.record(2), 11);
-            check.due(made + " snapshots", box.record(3), end / interval + 1);
+            for (int half = 0; half < 2; half++) {
+                RewindBox live = busy(interval, position);
+                RewindBox box = busy(interval, 1000);
+                box.go((position * 29 + 11) % (end + 1));
+                String made = "interval " + interval + ": go(" + position + ")";
+                check.due(made, box.go(position), true);
+                check.due(made + " machine", look(box, half), look(live, half));
+                check.due(made + " position", box.record(0), position);
+                check.due(made + " end", box.record(1), end);
+                check.due(made + " entries", box.record(2), 11);
+                check.due(made + " snapshots", box.record(3), end / interval + 1);
+            }
         }
     }
 
     private static void outside(Check check) {
-        RewindBox box = busy(4);
-        box.go(30);
-        long before = look(box);
-        int[] wrong = {Integer.MIN_VALUE, -4, -1, box.record(1) + 1, 512, Integer.MAX_VALUE};
+        int end = busy(4, 1000).record(1);
+        int[] wrong = {Integer.MIN_VALUE, -4, -1, end + 1, 512, Integer.MAX_VALUE};
         for (int position : wrong) {
+            RewindBox box = busy(4, 1000);
+            RewindBox other = busy(4, 1000);
+            box.go(30);
+            other.go(30);
             check.due("go(" + position + ")", box.go(position), false);
-            check.due("nothing happens", look(box), before);
+            check.due("nothing happens", look(box, 0), look(other, 0));
             check.due("the position stays", box.record(0), 30);
+            check.due("go(the end)", box.go(end), true);
         }
-        check.due("go(the end)", box.go(box.record(1)), true);
     }
 
     private static void whatWaitsStays(Check check) {
-        RewindBox box = busy(4);
+        RewindBox box = busy(4, 1000);
         box.go(20);
         box.give(1);
         box.give(2);

@@ -2,7 +2,7 @@ import java.util.Random;
 
 /** All promises: runs of up to 512 calls on a box and on the plain model of the document, with fixed seeds. */
 public final class RandomRunsTest {
-    private static final int RUNS = 600;
+    private static final int RUNS = 1500;
     private static final int CALLS = 512;
     private static final int[] ODD = {
         Integer.MIN_VALUE, Integer.MIN_VALUE + 1, -513, -512, -2, -1, 0, 1, 2, 7, 8, 9, 10, 11, 31, 32, 39, 40, 41,
@@ -112,7 +112,7 @@ public final class RandomRunsTest {
             case 33, 34, 35 -> word(random.nextInt(4) == 0 ? odd() : random.nextInt(512));
             case 36 -> outs();
             case 37, 38 -> out(random.nextInt(3) == 0 ? odd() : random.nextInt(plain.outs() + 2));
-            case 39 -> lookAtAll();
+            case 39 -> lookAtMuch();
             default -> restart(0);
         }
     }
@@ -127,6 +127,10 @@ public final class RandomRunsTest {
 
     private void same(String call, long got, long want) {
         calls++;
+        if (calls > CALLS) {
+            // What such calls answer is free.
+            return;
+        }
         check.due(run + calls + " " + call, got, want);
     }
 
@@ -228,22 +232,13 @@ public final class RandomRunsTest {
         outs();
     }
 
-    /** Looks do not change a box, so that all its words and outs are compared at once and counted as one call. */
-    private void lookAtAll() {
-        int before = calls;
+    private void lookAtMuch() {
         lookAtMachine();
-        for (int place = 0; place < 512; place++) {
-            word(place);
-        }
-        for (int i = 0; i <= 64; i++) {
-            out(i);
-        }
-        for (int k = 0; k <= snapshotsSeen(); k++) {
-            pages(k);
+        for (int i = 0; i < 12; i++) {
+            word(random.nextInt(512));
         }
         for (int what = 0; what <= 6; what++) {
             record(what);
         }
-        calls = before + 1;
     }
 }

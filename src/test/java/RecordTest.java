@@ -7,6 +7,7 @@ public final class RecordTest {
         Check check = new Check();
         ringsJustWhereTheyWere(check);
         aNewRingWaitsForTheEnd(check);
+        snapshotsAreMadeOnce(check);
         theReadme(check);
         check.end();
     }
@@ -57,6 +58,21 @@ public final class RecordTest {
         box.cut();
         check.due("step(1) behind a cut", box.step(1), 1);
         check.due("taken there", box.log(0, 0), 5);
+    }
+
+    private static void snapshotsAreMadeOnce(Check check) {
+        RewindBox box = Asm.started(4, Asm.NOTHING, Asm.store(0, 0, 100), Asm.store(0, 0, 120), Asm.jump(0));
+        box.step(8);
+        check.due("snapshots", box.record(3), 3);
+        check.due("pages", box.record(4), 4);
+        box.go(1);
+        check.due("to the end by the log", box.step(7), 7);
+        check.due("snapshots", box.record(3), 3);
+        check.due("pages", box.record(4), 4);
+        box.go(3);
+        check.due("over the end", box.step(9), 9);
+        check.due("snapshots", box.record(3), 4);
+        check.due("pages", box.record(4), 6);
     }
 
     private static void theReadme(Check check) {
