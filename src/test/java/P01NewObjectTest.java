@@ -1,47 +1,60 @@
-/** Promise 1: the interval, the words and that there is no record. */
+/** Promise 1: a new object. */
 public final class P01NewObjectTest {
-    private static final int[] GIVEN = {Integer.MIN_VALUE, -1, 0, 1, 2, 3, 4, 31, 63, 64, 65, 1000, Integer.MAX_VALUE};
-    private static final int[] NEAREST = {2, 2, 2, 2, 2, 3, 4, 31, 63, 64, 64, 64, 64};
-
     private P01NewObjectTest() {
     }
 
     public static void main(String[] args) {
-        Check check = new Check();
-        for (int i = 0; i < GIVEN.length; i++) {
-            interval(check, GIVEN[i], NEAREST[i]);
-        }
-        allWordsAreZero(check, new RewindBox(16));
-        nothingThere(check, new RewindBox(16));
-        check.end();
+        Cases cases = Cases.ofPromise(1);
+        cases.hold("An interval of 2 .. 64 steps", P01NewObjectTest::everyInterval);
+        cases.hold("(what is less", P01NewObjectTest::tooSmall);
+        cases.hold("or more is the nearest of these);", P01NewObjectTest::tooLarge);
+        cases.hold("all words are 0,", P01NewObjectTest::allWordsAreZero);
+        cases.hold("there is no record.", P01NewObjectTest::noRecord);
+        cases.end();
     }
 
-    private static void interval(Check check, int given, int nearest) {
-        RewindBox box = Asm.started(given, Asm.jump(0));
-        String made = "interval " + given + ": ";
-        check.due(made + "step(70)", box.step(70), 70);
-        check.due(made + "record(3)", box.record(3), 70 / nearest + 1);
-        for (int position = 0; position <= 70; position++) {
-            check.due(made + "far(" + position + ")", box.far(position), position % nearest);
+    private static void everyInterval(Check check) {
+        for (int interval = 2; interval <= 64; interval++) {
+            hasInterval(check, interval, interval);
         }
     }
 
-    private static void allWordsAreZero(Check check, RewindBox box) {
+    private static void tooSmall(Check check) {
+        int[] given = {1, 0, -1, -2, -3, -64, -65, Integer.MIN_VALUE + 2, Integer.MIN_VALUE};
+        for (int interval : given) {
+            hasInterval(check, interval, 2);
+        }
+    }
+
+    private static void tooLarge(Check check) {
+        int[] given = {65, 66, 127, 128, 256, 258, 65538, Integer.MAX_VALUE};
+        for (int interval : given) {
+            hasInterval(check, interval, 64);
+        }
+    }
+
+    private static void hasInterval(Check check, int given, int interval) {
+        RewindBox box = Boxes.spinning(given);
+        String made = "RewindBox(" + given + "): ";
+        for (int k = 1; k <= 3; k++) {
+            box.step(interval - 1);
+            check.due(made + "snapshots before place " + k, box.record(3), k);
+            check.due(made + "far() before place " + k, box.far(k * interval - 1), interval - 1);
+            box.step(1);
+            check.due(made + "snapshots at place " + k, box.record(3), k + 1);
+            check.due(made + "far() at place " + k, box.far(k * interval), 0);
+        }
+    }
+
+    private static void allWordsAreZero(Check check) {
+        RewindBox box = new RewindBox(16);
         for (int place = 0; place < 512; place++) {
             check.due("word(" + place + ")", box.word(place), 0);
         }
     }
 
-    private static void nothingThere(Check check, RewindBox box) {
-        for (int i = 0; i <= 10; i++) {
-            check.due("register(" + i + ")", box.register(i), 0);
-        }
-        for (int what = -1; what <= 7; what++) {
-            check.due("record(" + what + ")", box.record(what), RewindBox.NONE);
-        }
-        check.due("outs()", box.outs(), 0);
-        check.due("out(0)", box.out(0), 0);
-        check.due("go(0)", box.go(0), false);
-        check.due("poke(0, 1)", box.poke(0, 1), true);
+    private static void noRecord(Check check) {
+        Boxes.haveNoRecord(check, "new: ", new RewindBox(16));
+        Boxes.haveNoRecord(check, "new with 0: ", new RewindBox(0));
     }
 }

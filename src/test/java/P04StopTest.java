@@ -4,71 +4,96 @@ public final class P04StopTest {
     }
 
     public static void main(String[] args) {
-        Check check = new Check();
-        noRecordAnyMore(check);
-        machineAsItIs(check);
-        stopWithoutOne(check);
-        check.end();
-    }
-
-    private static RewindBox atSix() {
-        RewindBox box = Asm.started(2,
-            Asm.OPEN, Asm.read(1), Asm.store(1, 0, 100), Asm.out(1), Asm.jump(1), 0, 0, 0, Asm.OPEN, Asm.jump(8));
-        box.give(77);
-        box.step(4);
-        box.ring();
-        box.step(2);
-        box.give(5);
-        box.ring();
-        return box;
+        Cases cases = Cases.ofPromise(4);
+        cases.hold("There is no record any more;", P04StopTest::noRecordAnyMore);
+        cases.hold("There is no record any more;", P04StopTest::withoutOne);
+        cases.hold("the memory", P04StopTest::memory);
+        cases.hold("(registers,", P04StopTest::registers);
+        cases.hold("outs, too)", P04StopTest::outs);
+        cases.hold("is as it is now.", P04StopTest::goneBack);
+        cases.hold("is as it is now.", P04StopTest::refusedCallsLeaveIt);
+        cases.end();
     }
 
     private static void noRecordAnyMore(Check check) {
-        RewindBox box = atSix();
-        box.stop();
-        for (int what = 0; what <= 6; what++) {
-            check.due("record(" + what + ")", box.record(what), RewindBox.NONE);
-        }
-        check.due("pages(0)", box.pages(0), RewindBox.NONE);
-        check.due("log(0, 0)", box.log(0, 0), RewindBox.NONE);
-        check.due("step(1)", box.step(1), RewindBox.NONE);
-        check.due("give(1)", box.give(1), RewindBox.NONE);
-        check.due("ring()", box.ring(), false);
-        check.due("go(0)", box.go(0), false);
-        check.due("far(0)", box.far(0), RewindBox.NONE);
-        check.due("cut()", box.cut(), RewindBox.NONE);
-        check.due("poke(0, 0)", box.poke(0, 0), true);
+        RewindBox atOnce = new RewindBox(4);
+        atOnce.start();
+        atOnce.stop();
+        Boxes.haveNoRecord(check, "stopped at once: ", atOnce);
+        RewindBox atTheEnd = Boxes.busy(4);
+        atTheEnd.stop();
+        Boxes.haveNoRecord(check, "at the end: ", atTheEnd);
+        Boxes.haveNoRecord(check, "gone back: ", Boxes.busyStopped(4));
     }
 
-    private static void machineAsItIs(Check check) {
-        RewindBox box = atSix();
-        box.stop();
-        machine(check, box, "at the end: ", 77, 9, 4, 1, 1, 77);
-        RewindBox earlier = atSix();
-        earlier.go(2);
-        earlier.stop();
-        machine(check, earlier, "at 2: ", 0, 2, 0, 1, 0, 0);
-        check.due("register(1) at 2", earlier.register(1), 77);
-        RewindBox pokedAfter = atSix();
-        pokedAfter.stop();
-        pokedAfter.poke(100, 3);
-        machine(check, pokedAfter, "poked: ", 3, 9, 4, 1, 1, 77);
-    }
-
-    private static void machine(Check check, RewindBox box, String when, int... due) {
-        check.due(when + "word(100)", box.word(100), due[0]);
-        check.due(when + "PC", box.register(8), due[1]);
-        check.due(when + "BACK", box.register(9), due[2]);
-        check.due(when + "open", box.register(10), due[3]);
-        check.due(when + "outs()", box.outs(), due[4]);
-        check.due(when + "out(0)", box.out(0), due[5]);
-    }
-
-    private static void stopWithoutOne(Check check) {
+    private static void withoutOne(Check check) {
         RewindBox box = new RewindBox(9);
         box.stop();
+        Boxes.haveNoRecord(check, "never started: ", box);
+        RewindBox twice = Boxes.busyStopped(4);
+        twice.stop();
+        Boxes.haveNoRecord(check, "stopped twice: ", twice);
+        Twins.stay(check, "stop() of a new one", () -> new RewindBox(4), RewindBox::stop);
+        Twins.stay(check, "stop() again", () -> Boxes.busyStopped(4), RewindBox::stop);
+    }
+
+    private static void memory(Check check) {
+        for (int from = 0; from < 512; from += 256) {
+            RewindBox box = Boxes.busy(4);
+            RewindBox twin = Boxes.busy(4);
+            box.stop();
+            for (int place = from; place < from + 256; place++) {
+                check.due("word(" + place + ")", box.word(place), twin.word(place));
+            }
+        }
+    }
+
+    private static void registers(Check check) {
+        RewindBox box = Boxes.busy(4, 27);
         box.stop();
-        check.due("record(0)", box.record(0), RewindBox.NONE);
-        check.due("poke(3, 4)", box.poke(3, 4), true);
+        int[] due = {0, -3, 0, 239, 13, Asm.read(1), 0, 10, 8, 20, 0};
+        for (int i = 0; i < due.length; i++) {
+            check.due("register(" + i + ")", box.register(i), due[i]);
+        }
+        RewindBox open = Asm.started(4, Asm.OPEN);
+        open.step(1);
+        open.stop();
+        check.due("it is open", open.register(10), 1);
+    }
+
+    private static void outs(Check check) {
+        RewindBox box = Boxes.busy(4);
+        box.stop();
+        check.due("outs()", box.outs(), 9);
+        for (int i = 0; i < 9; i++) {
+            check.due("out(" + i + ")", box.out(i), 213 + 13 * i);
+        }
+        check.due("out(9)", box.out(9), 0);
+    }
+
+    private static void goneBack(Check check) {
+        RewindBox box = Boxes.busy(4);
+        check.due("word(213) at the end", box.word(213), -6);
+        box.go(9);
+        box.stop();
+        check.due("word(200)", box.word(200), -7);
+        check.due("word(213)", box.word(213), 0);
+        check.due("register(3)", box.register(3), 213);
+        check.due("PC", box.register(8), 21);
+        check.due("BACK", box.register(9), 0);
+        check.due("outs()", box.outs(), 1);
+        check.due("out(0)", box.out(0), 213);
+        check.due("out(1)", box.out(1), 0);
+    }
+
+    private static void refusedCallsLeaveIt(Check check) {
+        Twins.stay(check, "the calls that a record needs", () -> Boxes.busyStopped(4), box -> {
+            box.give(1);
+            box.ring();
+            box.step(5);
+            box.go(0);
+            box.far(0);
+            box.cut();
+        });
     }
 }

@@ -1,76 +1,82 @@
-/** Promise 6: ring, and where it is taken. */
+/** Promise 6: ring. */
 public final class P06RingTest {
     private P06RingTest() {
     }
 
     public static void main(String[] args) {
-        Check check = new Check();
-        withoutARecord(check);
-        theSameOne(check);
-        onlyWhenOpen(check);
-        insteadOfHaltAndWait(check);
-        check.end();
+        Cases cases = Cases.ofPromise(6);
+        cases.hold("A ring comes", P06RingTest::comes);
+        cases.hold("A ring comes", P06RingTest::goneBack);
+        cases.hold("(one that was not yet taken is the same one): true;", P06RingTest::theSameOne);
+        cases.hold("(one that was not yet taken is the same one): true;", P06RingTest::anotherOneInIt);
+        cases.hold("false without a record.", P06RingTest::withoutARecord);
+        cases.end();
+    }
+
+    private static RewindBox open() {
+        return Asm.started(4, Asm.OPEN, Asm.jump(1), 0, 0, 0, 0, 0, 0, Asm.NOTHING, Asm.BACK);
+    }
+
+    private static void comes(Check check) {
+        RewindBox box = open();
+        check.due("none came", box.record(6), 0);
+        check.due("ring()", box.ring(), true);
+        check.due("it came", box.record(6), 1);
+        check.due("no entry yet", box.record(2), 0);
+        check.due("step(2)", box.step(2), 2);
+        check.due("it is taken", box.record(6), 0);
+        check.due("PC", box.register(8), 8);
+    }
+
+    private static void goneBack(Check check) {
+        RewindBox box = open();
+        box.step(10);
+        box.go(5);
+        check.due("ring()", box.ring(), true);
+        check.due("it came", box.record(6), 1);
+        check.due("step(5)", box.step(5), 5);
+        check.due("it waits for the end", box.record(6), 1);
+        box.step(1);
+        check.due("log(0, 0)", box.log(0, 0), 10);
+    }
+
+    private static void theSameOne(Check check) {
+        RewindBox box = open();
+        for (int i = 0; i < 5; i++) {
+            check.due("ring()", box.ring(), true);
+            check.due("record(6)", box.record(6), 1);
+        }
+        check.due("step(20)", box.step(20), 20);
+        check.due("record(6) after it", box.record(6), 0);
+        check.due("one entry", box.record(2), 1);
+        Twins.stay(check, "ring() again", () -> Boxes.busyGoneBack(4), RewindBox::ring);
+    }
+
+    private static void anotherOneInIt(Check check) {
+        RewindBox box = open();
+        box.ring();
+        box.step(2);
+        check.due("taken", box.record(2), 1);
+        check.due("ring() in the ring", box.ring(), true);
+        check.due("record(6)", box.record(6), 1);
+        check.due("step(3): its end, then the next one", box.step(3), 3);
+        check.due("entries", box.record(2), 2);
+        check.due("log(1, 0)", box.log(1, 0), 4);
+        check.due("log(1, 1)", box.log(1, 1), 2);
+        check.due("record(6)", box.record(6), 0);
     }
 
     private static void withoutARecord(Check check) {
         RewindBox box = new RewindBox(4);
-        check.due("ring()", box.ring(), false);
+        check.due("ring() of a new one", box.ring(), false);
         box.poke(0, Asm.OPEN);
         box.start();
         check.due("none came", box.record(6), 0);
         check.due("step(9)", box.step(9), 1);
-    }
-
-    private static void theSameOne(Check check) {
-        RewindBox box = Asm.started(4, Asm.OPEN, Asm.jump(1), 0, 0, 0, 0, 0, 0, Asm.BACK);
-        check.due("ring()", box.ring(), true);
-        check.due("ring()", box.ring(), true);
-        check.due("ring()", box.ring(), true);
-        check.due("record(6)", box.record(6), 1);
-        check.due("step(20)", box.step(20), 20);
-        check.due("record(6) after it", box.record(6), 0);
-        check.due("one entry", box.record(2), 1);
-        check.due("its position", box.log(0, 0), 1);
-        check.due("ring() again", box.ring(), true);
-        check.due("step(1)", box.step(1), 1);
-        check.due("two entries", box.record(2), 2);
-        check.due("its position", box.log(1, 0), 20);
-    }
-
-    private static void onlyWhenOpen(Check check) {
-        RewindBox box = Asm.started(4,
-            Asm.NOTHING, Asm.OPEN, Asm.CLOSE, Asm.NOTHING, Asm.OPEN, Asm.NOTHING, 0, 0, Asm.set(3, 30), Asm.BACK);
-        box.step(3);
-        check.due("ring() while closed", box.ring(), true);
-        check.due("step(2)", box.step(2), 2);
-        check.due("not yet taken", box.record(6), 1);
-        check.due("PC", box.register(8), 5);
-        check.due("open", box.register(10), 1);
-        check.due("step(1)", box.step(1), 1);
-        check.due("PC is 8", box.register(8), 8);
-        check.due("BACK", box.register(9), 5);
-        check.due("not open", box.register(10), 0);
-        check.due("taken", box.record(6), 0);
-        check.due("ring() in the ring", box.ring(), true);
-        check.due("step(2)", box.step(2), 2);
-        check.due("PC is BACK", box.register(8), 5);
-        check.due("open again", box.register(10), 1);
-        check.due("register(3)", box.register(3), 30);
-        check.due("step(1)", box.step(1), 1);
-        check.due("the next ring", box.register(8), 8);
-        check.due("log(1, 0)", box.log(1, 0), 8);
-    }
-
-    private static void insteadOfHaltAndWait(Check check) {
-        RewindBox box = Asm.started(4, Asm.OPEN, Asm.read(1), 0, 0, 0, 0, 0, 0, Asm.OPEN);
-        check.due("it waits", box.step(5), 1);
-        box.ring();
-        check.due("a ring wakes it, then it halts", box.step(5), 2);
-        check.due("PC", box.register(8), 9);
-        check.due("BACK", box.register(9), 1);
-        box.ring();
-        check.due("a ring wakes it from a halt", box.step(1), 1);
-        check.due("BACK", box.register(9), 9);
-        check.due("entries", box.record(2), 2);
+        RewindBox stopped = Boxes.busyStopped(4);
+        check.due("ring() after stop()", stopped.ring(), false);
+        stopped.start();
+        check.due("none came", stopped.record(6), 0);
+        Twins.stay(check, "ring()", () -> Boxes.busyStopped(4), RewindBox::ring);
     }
 }
