@@ -16,14 +16,23 @@ public final class FaceTest {
     }
 
     public static void main(String[] args) {
-        Check check = new Check();
+        Cases cases = Cases.ofTerms("The constants:");
+        cases.hold(11, "The constants: `NONE = -1`: Nothing there.", FaceTest::none);
+        cases.also("The public face, the class", FaceTest::theClass);
+        cases.also("The public face, its methods", FaceTest::methods);
+        cases.also("The public face, its constructor", FaceTest::constructors);
+        cases.also("The public face, its constants", FaceTest::fields);
+        cases.end();
+    }
+
+    private static void none(Check check) {
         check.due("NONE", RewindBox.NONE, -1);
+        check.due("record(0) of a new one", new RewindBox(4).record(0), -1);
+    }
+
+    private static void theClass(Check check) {
         check.due("the class is final", Modifier.isFinal(RewindBox.class.getModifiers()), true);
         check.due("the class is public", Modifier.isPublic(RewindBox.class.getModifiers()), true);
-        methods(check);
-        constructors(check);
-        fields(check);
-        check.end();
     }
 
     private static void methods(Check check) {
