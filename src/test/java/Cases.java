@@ -26,6 +26,10 @@ final class Cases {
         return new Cases("Terms, for ", 0, Document.paragraph("## Terms", firstWords));
     }
 
+    static Cases ofTheFace() {
+        return new Cases("The public face, for ", 0, Document.paragraph("## The public face", "public"));
+    }
+
     static Cases ofTheWhole(String firstWords) {
         return new Cases("The whole, for ", 0, Document.paragraph("## What it is", firstWords));
     }

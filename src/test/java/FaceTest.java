@@ -7,22 +7,32 @@ import java.util.TreeSet;
 
 /** The public face: just the document's constant, constructor and methods, and nothing else but private. */
 public final class FaceTest {
-    private static final Set<String> DUE = Set.of(
-        "boolean poke(int, int)", "void start()", "void stop()", "int give(int)", "boolean ring()", "int step(int)",
-        "boolean go(int)", "int far(int)", "int cut()", "int record(int)", "int pages(int)", "int log(int, int)",
-        "int register(int)", "int word(int)", "int outs()", "int out(int)");
+    private static final int FIRST_METHODS_PROMISE = 2;
+    private static final String[] METHODS = {
+        "public boolean poke(int place, int v);", "public void start();", "public void stop();",
+        "public int give(int v);", "public boolean ring();", "public int step(int n);",
+        "public boolean go(int position);", "public int far(int position);", "public int cut();",
+        "public int record(int what);", "public int pages(int k);", "public int log(int i, int what);",
+        "public int register(int i);", "public int word(int place);", "public int outs();", "public int out(int i);",
+    };
 
     private FaceTest() {
     }
 
     public static void main(String[] args) {
-        Cases cases = Cases.ofTerms("The constants:");
-        cases.hold(11, "The constants: `NONE = -1`: Nothing there.", FaceTest::none);
-        cases.also("The public face, the class", FaceTest::theClass);
-        cases.also("The public face, its methods", FaceTest::methods);
-        cases.also("The public face, its constructor", FaceTest::constructors);
-        cases.also("The public face, its constants", FaceTest::fields);
-        cases.end();
+        Cases face = Cases.ofTheFace();
+        face.hold(1, "public final class RewindBox {", FaceTest::theClass);
+        face.hold(1, "public static final int NONE = -1;", FaceTest::fields);
+        face.hold(1, "public RewindBox(int interval);", FaceTest::constructors);
+        for (int i = 0; i < METHODS.length; i++) {
+            String method = METHODS[i];
+            face.hold(FIRST_METHODS_PROMISE + i, method, check -> isThere(check, method));
+        }
+        face.hold(1, "}", FaceTest::noOtherMethod);
+        face.end();
+        Cases constants = Cases.ofTerms("The constants:");
+        constants.hold(11, "The constants: `NONE = -1`: Nothing there.", FaceTest::none);
+        constants.end();
     }
 
     private static void none(Check check) {
@@ -35,8 +45,17 @@ public final class FaceTest {
         check.due("the class is public", Modifier.isPublic(RewindBox.class.getModifiers()), true);
     }
 
-    private static void methods(Check check) {
+    private static void isThere(Check check, String line) {
+        String due = line.replaceAll("int \\w+(?=[,)])", "int");
         Set<String> found = new TreeSet<>();
+        for (Method method : RewindBox.class.getMethods()) {
+            found.add("public " + written(method) + ";");
+        }
+        check.due("there is a method " + due, found.contains(due), true);
+    }
+
+    private static void noOtherMethod(Check check) {
+        int publicMethods = 0;
         Set<String> publicNames = new TreeSet<>();
         Set<String> privateNames = new TreeSet<>();
         for (Method method : RewindBox.class.getDeclaredMethods()) {
@@ -44,11 +63,12 @@ public final class FaceTest {
                 privateNames.add(method.getName());
                 continue;
             }
-            found.add(written(method));
+            publicMethods++;
             publicNames.add(method.getName());
             check.due(method + " is public", Modifier.isPublic(method.getModifiers()), true);
+            check.due(method + " is static", Modifier.isStatic(method.getModifiers()), false);
         }
-        check.due("the methods " + found + " are those of the document", found.equals(DUE), true);
+        check.due("public methods", publicMethods, METHODS.length);
         privateNames.retainAll(publicNames);
         check.due("names " + privateNames + " that are private and public", privateNames.size(), 0);
     }
@@ -73,12 +93,21 @@ public final class FaceTest {
     }
 
     private static void fields(Check check) {
+        int found = 0;
         for (Field field : RewindBox.class.getDeclaredFields()) {
-            boolean isFace = field.getName().equals("NONE");
-            check.due(field + " is private", Modifier.isPrivate(field.getModifiers()), !isFace);
-            if (Modifier.isStatic(field.getModifiers())) {
-                check.due(field + " is final", Modifier.isFinal(field.getModifiers()), true);
+            int modifiers = field.getModifiers();
+            if (Modifier.isStatic(modifiers)) {
+                check.due(field + " is final", Modifier.isFinal(modifiers), true);
             }
+            if (!field.getName().equals("NONE")) {
+                check.due(field + " is private", Modifier.isPrivate(modifiers), true);
+                continue;
+            }
+            found++;
+            check.due("NONE is public", Modifier.isPublic(modifiers), true);
+            check.due("NONE is static", Modifier.isStatic(modifiers), true);
+            check.due("NONE is an int", field.getType() == int.class, true);
         }
+        check.due("constants", found, 1);
     }
 }

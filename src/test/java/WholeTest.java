@@ -1,4 +1,4 @@
-/** What holds for an object as a whole: its 512 calls, that no call throws, and what README.md shows. */
+/** What holds for an object as a whole: what it is, its 512 calls, and that no call throws. */
 public final class WholeTest {
     private static final int[] ODD = {
         Integer.MIN_VALUE, Integer.MIN_VALUE + 1, -513, -512, -1, 0, 1, 7, 8, 10, 11, 39, 40, 63, 64, 100, 299, 300,
@@ -9,13 +9,96 @@ public final class WholeTest {
     }
 
     public static void main(String[] args) {
-        Cases cases = Cases.ofTheWhole("An object is used");
-        cases.hold(7, "An object is used for at most 512 calls after it has been made; what later calls answer is free.",
+        Cases whole = Cases.ofTheWhole("A small machine");
+        whole.hold(13, "A small machine whose run is recorded by what came from outside alone,",
+            WholeTest::outsideAlone);
+        whole.hold(12, "with snapshots now and then of the pages that were written,", WholeTest::pagesWritten);
+        whole.hold(8, "so that any moment of it can be gone back to,", WholeTest::anyMoment);
+        whole.hold(7, "done again step by step,", WholeTest::stepByStep);
+        whole.hold(10, "and left in another direction.", WholeTest::anotherDirection);
+        whole.end();
+        Cases calls = Cases.ofTheWhole("An object is used");
+        calls.hold(7,
+            "An object is used for at most 512 calls after it has been made; what later calls answer is free.",
             WholeTest::allCalls);
-        cases.hold(10, "An object is used for at most 512 calls", WholeTest::manyCuts);
-        cases.also("Promises 1 to 17, no call throws", WholeTest::noCallThrows);
-        cases.also("What README.md shows", WholeTest::theReadme);
-        cases.end();
+        calls.hold(10, "An object is used for at most 512 calls", WholeTest::manyCuts);
+        calls.also("Promises 1 to 17, no call throws", WholeTest::noCallThrows);
+        calls.end();
+    }
+
+    /** However long it runs, and whatever it writes and puts out, the log has inputs and rings only. */
+    private static void outsideAlone(Check check) {
+        RewindBox alone = Asm.started(64, Asm.add(1, 1, 2), Asm.store(1, 0, 100), Asm.out(1), Asm.jump(0));
+        check.due("step(9999)", alone.step(9999), 2559);
+        check.due("entries where nothing came", alone.record(2), 0);
+        RewindBox box = Boxes.busy(4);
+        int inputs = 0;
+        int rings = 0;
+        for (int i = 0; i < box.record(2); i++) {
+            inputs += box.log(i, 1) == 1 ? 1 : 0;
+            rings += box.log(i, 1) == 2 ? 1 : 0;
+        }
+        check.due("inputs", inputs, 9);
+        check.due("rings", rings, 2);
+        check.due("entries", box.record(2), Boxes.BUSY_ENTRIES);
+    }
+
+    private static void pagesWritten(Check check) {
+        RewindBox box = Asm.started(4, Asm.store(1, 0, 100), Asm.store(1, 0, 120), Asm.NOTHING, Asm.jump(4),
+            Asm.NOTHING, Asm.NOTHING, Asm.NOTHING, Asm.store(1, 0, 100), Asm.jump(8));
+        box.step(15);
+        int[] due = {0, 2, 1, 0, RewindBox.NONE};
+        for (int k = 0; k < due.length; k++) {
+            check.due("pages(" + k + ")", box.pages(k), due[k]);
+        }
+        check.due("snapshots", box.record(3), 4);
+    }
+
+    private static void areAlike(Check check, String when, RewindBox box, RewindBox other) {
+        for (int i = 0; i <= 10; i++) {
+            check.due(when + ": register(" + i + ")", box.register(i), other.register(i));
+        }
+        int[] places = {200, 213, 226, 300, 113, 126, 139, 339, 365};
+        for (int place : places) {
+            check.due(when + ": word(" + place + ")", box.word(place), other.word(place));
+        }
+        int outs = other.outs();
+        check.due(when + ": outs()", box.outs(), outs);
+        check.due(when + ": the last one out", box.out(outs - 1), other.out(outs - 1));
+    }
+
+    private static void anyMoment(Check check) {
+        for (int position = Boxes.BUSY_END; position >= 0; position--) {
+            RewindBox box = Boxes.busy(7);
+            check.due("go(" + position + ")", box.go(position), true);
+            areAlike(check, "at " + position, box, Boxes.busy(7, position));
+        }
+    }
+
+    private static void stepByStep(Check check) {
+        for (int from = 0; from < Boxes.BUSY_END; from += 15) {
+            RewindBox box = Boxes.busy(7);
+            box.go(from);
+            for (int position = from + 1; position <= from + 15; position++) {
+                check.due("step(1) to " + position, box.step(1), 1);
+                areAlike(check, "again at " + position, box, Boxes.busy(7, position));
+            }
+        }
+    }
+
+    /** The way up to there is the same, and the way that was left is not there any more. */
+    private static void anotherDirection(Check check) {
+        RewindBox box = Boxes.busyGoneBack(7);
+        int entries = box.cut();
+        check.due("step(9999)", box.step(9999) > 0, true);
+        check.due("the ring is taken there", box.log(entries, 0), 30);
+        check.due("the inputs are taken behind it", box.register(1), 62);
+        int end = box.record(1);
+        check.due("the end is another one", end != Boxes.BUSY_END, true);
+        check.due("go(30)", box.go(30), true);
+        areAlike(check, "before it", box, Boxes.busy(7, 30));
+        check.due("step(9999)", box.step(9999), end - 30);
+        check.due("the same inputs again", box.register(1), 62);
     }
 
     /** Three calls a round, the last of them being call 512. */
@@ -75,22 +158,5 @@ public final class WholeTest {
         box.out(v);
         box.cut();
         return 1;
-    }
-
-    private static void theReadme(Check check) {
-        RewindBox box = Asm.started(4, 0x0C010000, 0x0D010000, 0x09000000);
-        box.give(7);
-        box.give(8);
-        check.due("step(100)", box.step(100), 6);
-        check.due("outs()", box.outs(), 2);
-        check.due("out(1)", box.out(1), 8);
-        check.due("go(3)", box.go(3), true);
-        check.due("outs()", box.outs(), 1);
-        check.due("step(2)", box.step(2), 2);
-        check.due("go(3)", box.go(3), true);
-        check.due("cut()", box.cut(), 1);
-        check.due("give(9)", box.give(9), 1);
-        check.due("step(2)", box.step(2), 2);
-        check.due("out(1)", box.out(1), 9);
     }
 }
